@@ -804,9 +804,9 @@ public final class DrawLabels {
             if (below < 1) {
                 return 0;
             }
-            // The doubled radius rounded down is enough to tell on which side of a half it lies.
-            long doubled = rootDown(4 * square * up * up / below);
-            return (int) ((doubled + 1) / 2);
+            // The radius taken twice, rounded down, is enough to tell on which side of a half it lies.
+            long twice = rootDown(4 * square * up * up / below);
+            return (int) ((twice + 1) / 2);
         }
     }
 
