@@ -1389,6 +1389,11 @@ public final class DrawLabels {
                 case DOT:
                     plotDot(o);
                     break;
+                case PIECE:
+                case LINE:
+                case RAY:
+                    plotStraight(o);
+                    break;
                 case CIRCLE:
                     plotCircle(o);
                     break;
@@ -1399,7 +1404,6 @@ public final class DrawLabels {
                     plotTicks(o);
                     break;
                 default:
-                    plotStraight(o);
                     break;
             }
         }
@@ -1666,7 +1670,7 @@ public final class DrawLabels {
             return across < widthOf(l) && -across < widthOf(m) && down < HIGH && -down < HIGH;
         }
 
-        /** Whether a label may be on a place beside those of the first ones that are placed; itself it does not heed. */
+        /** Whether a label may be on a place beside the first runners as they are now; itself it does not heed. */
         private boolean isFree(int l, int p, int first) {
             if (costOf(l, p) == CLOSED) {
                 return false;

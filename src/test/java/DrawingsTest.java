@@ -216,6 +216,8 @@ public final class DrawingsTest {
         dueDrawn("A 0 100 4 2 1/", 5, 2, -5, 0, 0, 0, 0, 5);
         dueDrawn("A 50 50 1 1 4/", 5, 2, 51, 51, 50, 50, 99, 99);
         dueDrawn("A 50 50 0 0 4/", 5, 2, 52, 51, 50, 50, 54, 52);
+        dueDrawn("A 50 50 0 1 0/", 5, 2, 51, 50, 50, 50, 51, 51);
+        dueDrawn("A 50 50 0 3 2/", 5, 2, 51, 50, 50, 50, 49, 51);
         dueDrawn("", 5, 2, 50, 50, -1, 0, 0, 5);
         dueDrawn("", 5, 2, 50, 50, 50, 50, 0, 5);
         dueDrawn("", 5, 2, 0, 5, 50, 50, 50, 50);
@@ -232,6 +234,22 @@ public final class DrawingsTest {
         dueDrawn("", 6, 2, 0, -100, 0, 99);
         dueDrawn("T 0 0 2 7/", 6, 2, -7, 104, 7, 96);
         dueDrawn("", 6, 2, 40, 40, 40, 40);
+        int[][] inside = {{20, 30}, {100, 30}, {20, 90}, {100, 90}};
+        int[][] outside = {{19, 30}, {101, 30}, {20, 29}, {20, 91}};
+        for (int[] twice : inside) {
+            due("middle inside", middleDrawn(twice[0], twice[1]), 2);
+        }
+        for (int[] twice : outside) {
+            due("middle outside", middleDrawn(twice[0], twice[1]), 1);
+        }
+    }
+
+    /** How many marks there are with ticks whose middle, taken twice, is x, y, in a window from 10, 15 to 50, 45. */
+    private static int middleDrawn(int x, int y) {
+        DrawLabels desk = Check.deskWith(x, 0, 0, y);
+        desk.window(10, 50, 15, 45);
+        desk.object(6, 0, 1, 1);
+        return desk.draw();
     }
 
     private static void areas() {

@@ -26,7 +26,36 @@ public final class RandomTest {
             CHECK.part("seed " + seed);
             new RandomTest(seed).run(seed);
         }
+        CHECK.part("a stroke near a label");
+        nearStrokes(new Random(runs), 20000);
         CHECK.end();
+    }
+
+    /** Strokes that just meet a box, or just do not, are rare in the runs above. */
+    private static void nearStrokes(Random random, int times) {
+        for (int i = 0; i < times; i++) {
+            DrawLabels desk = Check.deskWith(50, 50);
+            PlainDesk plain = new PlainDesk();
+            plain.point(50, 50);
+            for (int p = 0; p < 4; p++) {
+                int x = 30 + random.nextInt(41);
+                int y = 30 + random.nextInt(41);
+                desk.point(x, y);
+                plain.point(x, y);
+            }
+            desk.object(0, 0, 0, 0);
+            plain.object(0, 0, 0, 0);
+            for (int o = 0; o < 2; o++) {
+                int kind = 1 + random.nextInt(3);
+                desk.object(kind, 2 * o + 1, 2 * o + 2, 0);
+                plain.object(kind, 2 * o + 1, 2 * o + 2, 0);
+            }
+            desk.label(0, 1);
+            plain.label(0, 1);
+            CHECK.due("draw", desk.draw(), plain.draw());
+            CHECK.due("placed", desk.placed(0), plain.placed(0));
+            CHECK.due("cost", desk.count(10), plain.count(10));
+        }
     }
 
     private int any(int low, int high) {

@@ -10,6 +10,8 @@ public final class SolidsTest {
         face();
         view();
         edge();
+        seenFaces();
+        severalSolids();
         drawnCube();
         drawnEnds();
         CHECK.end();
@@ -57,6 +59,9 @@ public final class SolidsTest {
         due("x", desk.vertex(0, 101, 0, 0), OUTSIDE);
         due("y", desk.vertex(0, 0, -101, 0), OUTSIDE);
         due("z", desk.vertex(0, 0, 0, 101), OUTSIDE);
+        due("x below", desk.vertex(0, -101, 0, 0), OUTSIDE);
+        due("y above", desk.vertex(0, 0, 101, 0), OUTSIDE);
+        due("z below", desk.vertex(0, 0, 0, -101), OUTSIDE);
         due("UNKNOWN goes first", desk.vertex(1, 101, 0, 0), UNKNOWN);
         for (int k = 0; k < 12; k++) {
             due("number", desk.vertex(0, -100, 100, k), k);
@@ -135,6 +140,57 @@ public final class SolidsTest {
         due("seen from above", flat.edge(0, 0, 2), 0);
         flat.view(1);
         due("a face along the way of the eye is not seen", flat.edge(0, 0, 2), 1);
+    }
+
+    /** Whether a face at 0, 0, 0 with two more vertices is seen in a view. */
+    private static void dueSeen(int view, int want, int x1, int y1, int z1, int... second) {
+        DrawLabels desk = Check.deskWith(0, 0);
+        desk.solid(0, 1);
+        desk.vertex(0, 0, 0, 0);
+        desk.vertex(0, x1, y1, z1);
+        desk.vertex(0, second[0], second[1], second[2]);
+        desk.face(0, 3, 0x210);
+        desk.view(view);
+        due("view " + view + " behind", desk.edge(0, 0, 2), 1 - want);
+    }
+
+    private static void seenFaces() {
+        CHECK.part("faces that are seen");
+        dueSeen(0, 1, 1, 0, 0, 0, 1, 0);
+        dueSeen(0, 0, 0, 1, 0, 1, 0, 0);
+        dueSeen(1, 1, 0, 0, 1, 1, 0, 0);
+        dueSeen(2, 1, 0, 1, 0, 0, 0, 1);
+        // N = (1, 1, -1), (2, 0, -1), (0, 2, -1): N . E = 0 for E = (1, 1, 2).
+        dueSeen(3, 0, 1, 0, 1, 0, -1, -1);
+        dueSeen(3, 0, 1, 0, 2, 0, -1, 0);
+        dueSeen(3, 0, 1, 0, 0, 0, -1, -2);
+        // N = (1, 0, -1), (0, 1, -1), (1, -1, 0): N . E = 0 for E = (1, 1, 1).
+        dueSeen(4, 0, 1, 0, 1, 0, -1, 0);
+        dueSeen(4, 0, 1, 0, 0, 0, -1, -1);
+        dueSeen(4, 0, 1, 1, 0, 0, 0, -1);
+        dueSeen(4, 0, 1, 1, 0, 0, 0, 1);
+    }
+
+    private static void severalSolids() {
+        CHECK.part("several solids");
+        DrawLabels desk = Check.deskWith(10, 10, 50, 10, 10, 50, 50, 50);
+        for (int s = 0; s < 4; s++) {
+            desk.solid(s, s + 1);
+            for (int k = 0; k < 12; k++) {
+                desk.vertex(s, k, k * k % 7, 0);
+            }
+            desk.face(s, 3, 0xba9);
+        }
+        for (int s = 0; s < 4; s++) {
+            due("edges", desk.edge(s, -1, 0), 3);
+            due("lesser", desk.edge(s, 2, 0), 10);
+            due("greater", desk.edge(s, 2, 1), 11);
+        }
+        // Vertices 9, 10, 11 are at 9, 4; 10, 2; 11, 2.
+        CHECK.dueText("by number", Check.drawn(desk), "S 19 86 20 88 0/S 19 86 21 88 0/S 20 88 21 88 0/"
+                + "S 68 82 70 86 0/S 68 82 72 86 0/S 70 86 72 86 0/"
+                + "S 37 38 40 44 0/S 37 38 43 44 0/S 40 44 43 44 0/"
+                + "S 86 34 90 42 0/S 86 34 94 42 0/S 90 42 94 42 0/");
     }
 
     private static void dueBehind(DrawLabels desk, int view) {
