@@ -323,12 +323,35 @@ public final class DrawingsTest {
         for (int what = 0; what <= 6; what++) {
             due("F " + what, desk.mark(0, what), dueF[what]);
         }
+        numbersOfMarks();
         due("what 7", desk.mark(1, 7), OUTSIDE);
         due("what -1", desk.mark(1, -1), OUTSIDE);
         due("no mark", desk.mark(2, 0), UNKNOWN);
         due("no mark below 0", desk.mark(-1, 0), UNKNOWN);
         due("UNKNOWN goes first", desk.mark(2, 7), UNKNOWN);
         due("far off", desk.mark(HIGHEST, LOWEST), UNKNOWN);
+    }
+
+    /** Each mark has its letter and its numbers, and 0 behind them. */
+    private static void numbersOfMarks() {
+        DrawLabels desk = Check.deskWith(31, 32, 47, 44, 35, 71);
+        desk.object(0, 0, 0, 0);
+        desk.object(1, 0, 1, 0);
+        desk.object(4, 0, 1, 0);
+        desk.object(5, 1, 0, 2);
+        desk.object(6, 0, 1, 3);
+        desk.style(0, 2);
+        desk.style(1, 1);
+        desk.style(2, 2);
+        desk.label(2, 2);
+        due("draw", desk.draw(), 7);
+        int[][] due = {{'F', 100, 100, 0, 0, 0, 0}, {'D', 31, 68, 2, 0, 0, 0}, {'S', 31, 68, 47, 56, 1, 0},
+            {'C', 31, 68, 20, 0, 2, 0}, {'A', 31, 68, 0, 1, 0, 0}, {'T', 39, 62, 3, 0, 0, 0}, {'W', 34, 44, 2, 0, 0, 0}};
+        for (int k = 0; k < 7; k++) {
+            for (int what = 0; what <= 6; what++) {
+                due("MARK " + k + " what " + what, desk.mark(k, what), due[k][what]);
+            }
+        }
     }
 
     private static void octet() {

@@ -166,6 +166,19 @@ public final class GroupsTest {
         desk.move(1, 1, 2);
         desk.tick(5);
         dueCode(desk, "as it is now", desk.reach(2), 64 + 196, 0);
+        DrawLabels fallen = Check.deskWith(5, 5, 5, 5);
+        fallen.object(4, 0, 1, 0);
+        fallen.object(4, 0, 0, 0);
+        fallen.object(0, 0, 0, 0);
+        fallen.reach(2);
+        dueCode(fallen, "a fallen one", fallen.reach(0), 0, 0);
+        fallen.reach(2);
+        dueCode(fallen, "one of one point", fallen.reach(1), 0, 0);
+        for (int kind = 0; kind < 7; kind++) {
+            DrawLabels each = Check.deskWith(5, 5, 8, 9, 1, 1);
+            each.object(kind, 0, 1, 2);
+            dueCode(each, "kind " + kind, each.reach(0), kind == 4 ? 25 : 0, kind == 4 ? 0 : 2);
+        }
         DrawLabels wide = Check.deskWith(-20000, -20000, 20000, 20000);
         wide.move(0, -100, -100);
         wide.move(1, 100, 100);

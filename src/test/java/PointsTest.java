@@ -165,6 +165,11 @@ public final class PointsTest {
         due("kind 7 with no a", desk.object(7, 3, 0, 0), UNKNOWN);
         due("kind -1 with no a", desk.object(-1, -1, 0, 0), UNKNOWN);
         due("the same point twice", desk.object(1, 0, 0, 0), 8);
+        for (int kind = 1; kind <= 6; kind++) {
+            DrawLabels same = Check.deskWith(7, 7, 9, 9);
+            due("kind " + kind + " of one point", same.object(kind, 1, 1, 1), 0);
+            due("kind " + kind + " of one point is fallen", same.fallen(0), 1);
+        }
         due("count", desk.count(1), 9);
         for (int o = 9; o < 40; o++) {
             due("number", desk.object(0, 0, 0, 0), o);
@@ -237,6 +242,14 @@ public final class PointsTest {
         due("off", desk.hide(0, false), 1);
         due("off again", desk.hide(0, false), 0);
         CHECK.dueText("not hidden", Check.drawn(desk), "D 50 50 0/S 50 50 60 50 0/");
+        DrawLabels each = new DrawLabels();
+        for (int kind = 0; kind < 10; kind++) {
+            due("kind " + kind + " was not", each.hide(kind, true), 0);
+            for (int other = 0; other < 10; other++) {
+                due("kind " + other, each.hide(other, other == kind), other == kind ? 1 : 0);
+            }
+            due("kind " + kind + " was", each.hide(kind, false), 1);
+        }
         due("kind 9", desk.hide(9, true), 0);
         due("kind 9 was", desk.hide(9, true), 1);
         due("kind 10", desk.hide(10, true), OUTSIDE);
@@ -280,6 +293,14 @@ public final class PointsTest {
         due("the other way round", desk.measure(Check.area(desk, 3, 2, 1, 0)), -3200000000L);
         due("crossed", desk.measure(Check.area(desk, 0, 2, 1, 3)), 0);
         due("of another kind", desk.measure(desk.object(1, 0, 1, 0)), 0);
+        DrawLabels others = Check.deskWith(3, 4, 50, 6, 7, 80);
+        for (int kind = 0; kind < 7; kind++) {
+            due("of kind " + kind, others.measure(others.object(kind, 0, 1, 2)), 0);
+        }
+        DrawLabels told = Check.deskWith(0, 0, 0, 9091, 11, 0, 0, 16667, 6, 0);
+        due("as a refusal is", told.measure(Check.area(told, 0, 1, 2)), -100001);
+        due("as another refusal is", told.measure(Check.area(told, 0, 3, 4)), -100002);
+        due("that is not fallen", told.fallen(0), 0);
         due("three times round", desk.measure(Check.area(desk, 0, 1, 2, 3, 0, 1, 2, 3, 0, 1, 2, 3)), 9600000000L);
         desk.move(0, -100, -100);
         desk.move(1, 100, -100);

@@ -11,6 +11,7 @@ public final class SolidsTest {
         view();
         edge();
         seenFaces();
+        seenFromEachView();
         severalSolids();
         drawnCube();
         drawnEnds();
@@ -171,6 +172,21 @@ public final class SolidsTest {
         dueSeen(4, 0, 1, 1, 0, 0, 0, 1);
     }
 
+    private static void seenFromEachView() {
+        CHECK.part("SEEN, if N . E is above 0");
+        int[][] eyes = {{0, 0, 1}, {0, 1, 0}, {1, 0, 0}, {1, 1, 2}, {1, 1, 1}};
+        for (int view = 0; view <= 4; view++) {
+            for (int p = -4; p <= 4; p++) {
+                for (int q = -4; q <= 4; q++) {
+                    // (1, 0, p) x (0, 1, q) is (-p, -q, 1).
+                    int towards = -p * eyes[view][0] - q * eyes[view][1] + eyes[view][2];
+                    dueSeen(view, towards > 0 ? 1 : 0, 1, 0, p, 0, 1, q);
+                    dueSeen(view, towards < 0 ? 1 : 0, 0, 1, q, 1, 0, p);
+                }
+            }
+        }
+    }
+
     private static void severalSolids() {
         CHECK.part("several solids");
         DrawLabels desk = Check.deskWith(10, 10, 50, 10, 10, 50, 50, 50);
@@ -219,7 +235,9 @@ public final class SolidsTest {
                 "S 50 50 70 50 0/S 50 50 50 30 0/S 70 50 70 30 0/S 50 30 70 30 0/");
         desk.hide(8, true);
         CHECK.dueText("hidden", Check.drawn(desk), "");
-        desk.hide(8, false);
+        // A desk is used for 512 calls at most.
+        desk = cube(2);
+        desk.hide(9, true);
         desk.view(3);
         CHECK.dueText("view 3", Check.drawn(desk),
                 "S 90 50 90 10 0/S 90 50 70 70 0/S 50 10 90 10 0/S 50 10 30 30 0/S 90 10 70 30 0/"
@@ -228,7 +246,7 @@ public final class SolidsTest {
         CHECK.dueText("view 4", Check.drawn(desk),
                 "S 70 70 70 30 0/S 70 70 50 90 0/S 50 10 70 30 0/S 50 10 30 30 0/S 70 30 50 50 0/"
                 + "S 30 70 50 90 0/S 30 70 30 30 0/S 50 90 50 50 0/S 30 30 50 50 0/");
-        desk.hide(9, false);
+        desk = cube(2);
         desk.view(1);
         CHECK.dueText("view 1: p is x, q is -z", Check.drawn(desk),
                 "S 50 50 70 50 1/S 50 50 50 70 1/S 70 50 70 70 1/S 50 50 70 50 0/S 50 50 50 70 0/"

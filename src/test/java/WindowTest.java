@@ -6,12 +6,15 @@ public final class WindowTest {
     public static void main(String[] args) {
         window();
         fit();
+        fitEdges();
+        fitKinds();
         side();
         sheet();
         grid();
         hatch();
         scale();
         single();
+        singleEdges();
         CHECK.end();
     }
 
@@ -73,6 +76,54 @@ public final class WindowTest {
         desk.hide(1, false);
         due("below 0 alone", desk.fit(), 1);
         dueWindow(desk, -7, -7, 8, 8);
+    }
+
+    private static void fitEdges() {
+        CHECK.part("promise 14, edges");
+        DrawLabels desk = Check.deskWith(-20000, 20000, 20000, -20000, 5, 6, 7, 8);
+        desk.move(0, -100, 100);
+        desk.move(1, 100, -100);
+        desk.solid(0, 50);
+        desk.corner(0);
+        desk.object(0, 2, 0, 1);
+        due("POINTS in no OBJECT, of SOLIDS and in THE CHAIN do not count", desk.fit(), 1);
+        dueWindow(desk, 5, 5, 6, 6);
+        due("a WINDOW of one place has no SCALE", desk.draw(), 0);
+        desk.object(1, 2, 3, 0);
+        due("c of a PIECE does not count", desk.fit(), 2);
+        dueWindow(desk, 5, 7, 6, 8);
+        desk.object(5, 2, 3, 0);
+        due("c of an ANGLE counts", desk.fit(), 3);
+        dueWindow(desk, -20000, 7, 6, 20000);
+        desk.object(4, 2, 1, 0);
+        desk.tick(100);
+        due("as far as can be", desk.fit(), 4);
+        dueWindow(desk, -30000, 30000, -30000, 30000);
+        desk.hide(8, true);
+        desk.hide(9, true);
+        due("all KINDS of OBJECTS", desk.fit(), 4);
+        desk.hide(5, true);
+        due("without the ANGLE", desk.fit(), 3);
+        dueWindow(desk, 5, 30000, -30000, 8);
+        due("CODE stays", desk.code(), 6);
+    }
+
+    private static void fitKinds() {
+        CHECK.part("promise 14, the POINTS of each KIND and no other ones");
+        int[][] windows = {{5, 5, 6, 6}, {5, 7, 3, 6}, {5, 7, 3, 6}, {5, 7, 3, 6}, {5, 7, 3, 6}, {-1, 7, 3, 9}, {5, 7, 3, 6}};
+        for (int kind = 0; kind < 7; kind++) {
+            DrawLabels desk = Check.deskWith(900, -900, 5, 6, 7, 3, -1, 9, -800, 800);
+            desk.object(kind, 1, 2, 3);
+            due("KIND " + kind, desk.fit(), 1);
+            dueWindow(desk, windows[kind][0], windows[kind][1], windows[kind][2], windows[kind][3]);
+        }
+        DrawLabels desk = Check.deskWith(900, -900, 5, 6, 7, 3, -1, 9, -800, 800);
+        Check.area(desk, 1, 2, 3);
+        due("AREA of 3", desk.fit(), 1);
+        dueWindow(desk, -1, 7, 3, 9);
+        Check.area(desk, 1, 1, 1, 1, 1, 1, 1, 1, 1, 1, 1, 4);
+        due("AREA of 12 that is FALLEN", desk.fit(), 2);
+        dueWindow(desk, -800, 7, 3, 800);
     }
 
     private static void side() {
@@ -186,5 +237,43 @@ public final class WindowTest {
         desk.move(0, 9, 0);
         desk.tick(1);
         CHECK.dueFloat("as it is now", desk.single(0, 0), 10f);
+    }
+
+    private static void dueSingle(int left, int right, int sheet, int x, float want) {
+        DrawLabels desk = Check.deskWith(x, -x);
+        desk.window(left, right, -right, -left);
+        desk.sheet(sheet, sheet, 0);
+        CHECK.dueFloat("X of " + x, desk.single(0, 0), want);
+        CHECK.dueFloat("Y of " + -x, desk.single(0, 1), want);
+    }
+
+    private static void singleEdges() {
+        CHECK.part("promise 20, edges");
+        // Both numbers as floats, the one by the other: not what doubles would tell.
+        dueSingle(-29569, 14721, 399, 17554, 18802077f / 44290f);
+        dueSingle(-35380, -29964, 361, 16075, 18575255f / 5416f);
+        // In least terms: 17735235 / 45513 would tell another float.
+        dueSingle(-34041, 11472, 335, 18900, 5911745f / 15171f);
+        dueSingle(-38850, -16566, 303, 19873, 5931023f / 7428f);
+        dueSingle(-50, 50, 100, -50, 0f);
+        dueSingle(-50, 50, 100, 50, 100f);
+        dueSingle(-50, 50, 100, -51, -1f);
+        dueSingle(-50, 51, 101, -50, 0f);
+        dueSingle(-50, 51, 100, 0, 5000f / 101f);
+        int[][] places = {{4096, 0}, {8192, 3}, {8193, 2}, {5793, 0}, {-20000, 19999}};
+        for (int[] place : places) {
+            DrawLabels desk = Check.deskWith(place[0], place[1], 0, 0);
+            float want = (float) ((long) place[0] * place[0] + (long) place[1] * place[1]);
+            CHECK.dueFloat("square from 0, 0", desk.single(0, 2), want);
+            CHECK.dueFloat("square from the POINT before it", desk.single(1, 2), want);
+        }
+        CHECK.dueFloat("next to 67108873", Check.deskWith(8192, 3).single(0, 2), 67108872f);
+        CHECK.dueFloat("next to 67125253", Check.deskWith(8193, 2).single(0, 2), 67125256f);
+        DrawLabels far = Check.deskWith(-20000, -20000, 20000, 20000);
+        far.move(0, -100, -100);
+        far.move(1, 100, 100);
+        far.tick(100);
+        CHECK.dueFloat("the greatest square", far.single(1, 2), 7200000000f);
+        CHECK.dueFloat("of the first one", far.single(0, 2), 1800000000f);
     }
 }
