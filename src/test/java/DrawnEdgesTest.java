@@ -653,6 +653,9 @@ public final class DrawnEdgesTest {
         desk.window(0, 1000, 0, 1000);
         desk.draw();
         due("upright strokes are LOST", desk.count(7), 1 + 2 * 1001 + 6 + 5 - 600);
+        due("the 600th MARK is an upright one", desk.mark(599, 1), desk.mark(599, 3));
+        due("from BOTTOM", desk.mark(599, 2), 400);
+        due("to TOP", desk.mark(599, 4), 0);
     }
 
     private static void lostAreas() {

@@ -29,6 +29,7 @@ public final class LabelEdgesTest {
         leastSum();
         leastRow();
         leastPlaceOfRounds();
+        eachPlaceIsLeast();
         rounds();
         words();
         placed();
@@ -127,6 +128,11 @@ public final class LabelEdgesTest {
         CHECK.part("ANCHOR of an AREA: of the POINTS' places ON THE SHEET");
         // 20.5, 21.5, 22.5 are 21, 22, 23 on the sheet: the sum is 66, not 64.5.
         dueArea("each ROUNDED", "W 25 46 1 0", 200, 41, 100, 43, 90, 45, 110);
+        // -0.5, 3, 6 are 0, 3, 6 on the sheet; -2.5, 3, 2 are -2, 3, 2.
+        dueArea("a half up below 0", "W 6 46 1 0", 200, -1, 100, 6, 90, 12, 110);
+        dueArea("a half up below 0", "W 4 46 1 0", 200, -5, 100, 6, 90, 4, 110);
+        // Y are -0.5, 2, 4, so 0, 2, 4; on the sheet's upper end comes place 5.
+        dueArea("a half of Y up below 0", "W 42 4 1 0", 200, 98, 201, 100, 196, 102, 192);
         DrawLabels twice = Check.deskWith(20, 50, 30, 40, 40, 60);
         twice.hatch(1000);
         // 20 + 20 + 30 + 40 by 4 is 27.
@@ -679,6 +685,39 @@ public final class LabelEdgesTest {
         due("COST", desk.count(10), 12);
         desk.label(ticks, 1);
         duePlaces("none is left", desk, "488888808");
+    }
+
+    private static void eachPlaceIsLeast() {
+        CHECK.part("the PLACE of least COST: each of 0 .. 7, by THE BEST and by ROUNDS");
+        // A dot that each place of ticks at 50, 50 takes, and no other place does.
+        int[][] dots = {{58, 48}, {55, 40}, {48, 38}, {43, 42}, {41, 50}, {43, 58}, {49, 61}, {56, 58}};
+        for (int free = 0; free < 8; free++) {
+            DrawLabels desk = new DrawLabels();
+            int ticks = ticksAt(desk, 50, 50);
+            for (int p = 0; p < 8; p++) {
+                if (p != free) {
+                    desk.object(DOT, desk.point(dots[p][0], 100 - dots[p][1]), 0, 0);
+                }
+            }
+            desk.label(ticks, 1);
+            desk.draw();
+            due("THE BEST", desk.placed(0), free);
+            due("its COST", desk.count(10), free);
+            int corner = ticksAt(desk, 90, 90);
+            for (int i = 0; i < 6; i++) {
+                desk.label(corner, 1);
+            }
+            desk.draw();
+            due("a ROUND", desk.placed(0), free);
+            due("ROUNDS", desk.count(11), 2);
+        }
+        DrawLabels last = Check.deskWith(0, 100);
+        int dot = last.object(DOT, 0, 0, 0);
+        for (int i = 0; i < 7; i++) {
+            last.label(dot, 1);
+        }
+        duePlaces("7 alone is OPEN", last, "7888888");
+        due("COST", last.count(10), 7);
     }
 
     private static void rounds() {

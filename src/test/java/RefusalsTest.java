@@ -242,6 +242,8 @@ public final class RefusalsTest {
         refused("first and second alike", desk -> desk.face(0, 3, 0x211), NOT);
         refused("second and third alike", desk -> desk.face(0, 3, 0x221), NOT);
         refused("first and third alike", desk -> desk.face(0, 3, 0x121), NOT);
+        refused("first and third of four alike", desk -> desk.face(0, 4, 0x2101), NOT);
+        refused("second and fourth of four alike", desk -> desk.face(0, 4, 0x1210), NOT);
         TWINS.refused("behind the last VERTEX", Twins::used, desk -> desk.face(0, 3, 0x610), UNKNOWN);
         TWINS.refused("of a SOLID with fewer", Twins::used, desk -> desk.face(1, 3, 0x310), UNKNOWN);
         CHECK.due("the last VERTEX", Twins.used().face(0, 3, 0x510), 3);

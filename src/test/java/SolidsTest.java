@@ -143,16 +143,20 @@ public final class SolidsTest {
         due("a face along the way of the eye is not seen", flat.edge(0, 0, 2), 1);
     }
 
-    /** Whether a face at 0, 0, 0 with two more vertices is seen in a view. */
+    /** Whether a face at 0, 0, 0 with two more vertices is seen in a view, and the same one moved elsewhere. */
     private static void dueSeen(int view, int want, int x1, int y1, int z1, int... second) {
         DrawLabels desk = Check.deskWith(0, 0);
-        desk.solid(0, 1);
-        desk.vertex(0, 0, 0, 0);
-        desk.vertex(0, x1, y1, z1);
-        desk.vertex(0, second[0], second[1], second[2]);
-        desk.face(0, 3, 0x210);
-        desk.view(view);
-        due("view " + view + " behind", desk.edge(0, 0, 2), 1 - want);
+        int[][] moved = {{0, 0, 0}, {7, -50, 30}, {-90, 11, -13}};
+        for (int s = 0; s < 3; s++) {
+            int[] by = moved[s];
+            desk.solid(0, 1);
+            desk.vertex(s, by[0], by[1], by[2]);
+            desk.vertex(s, by[0] + x1, by[1] + y1, by[2] + z1);
+            desk.vertex(s, by[0] + second[0], by[1] + second[1], by[2] + second[2]);
+            desk.face(s, 3, 0x210);
+            desk.view(view);
+            due("view " + view + " behind, moved " + s, desk.edge(s, 0, 2), 1 - want);
+        }
     }
 
     private static void seenFaces() {
