@@ -554,6 +554,10 @@ public final class DrawnEdgesTest {
         // The window goes from -20, -20 to 20, 20, as seen from the point.
         CHECK.dueText("one place on LEFT", Check.drawn(solid(-20, 0, 0, -30, 0, 0, -30, 5, 0)), "S 0 20 0 20 1/S 0 20 0 20 1/");
         CHECK.dueText("beside LEFT", Check.drawn(solid(-21, 0, 0, -30, 0, 0, -30, 5, 0)), "");
+        CHECK.dueText("one place on RIGHT", Check.drawn(solid(20, 0, 0, 30, 0, 0, 30, 5, 0)), "S 40 20 40 20 0/S 40 20 40 20 0/");
+        CHECK.dueText("beside RIGHT", Check.drawn(solid(21, 0, 0, 30, 0, 0, 30, 5, 0)), "");
+        CHECK.dueText("one place on BOTTOM", Check.drawn(solid(0, -20, 0, 0, -30, 0, 9, -30, 0)), "S 20 40 20 40 0/S 20 40 20 40 0/");
+        CHECK.dueText("beside BOTTOM", Check.drawn(solid(0, -21, 0, 0, -30, 0, 9, -30, 0)), "");
         CHECK.dueText("one place on TOP", Check.drawn(solid(0, 30, 0, 0, 20, 0, 9, 30, 0)), "S 20 0 20 0 0/S 20 0 20 0 0/");
         CHECK.dueText("beside TOP", Check.drawn(solid(0, 30, 0, 0, 21, 0, 9, 30, 0)), "");
         CHECK.dueText("from the lesser VERTEX to the greater", Check.drawn(solid(30, 0, 0, 0, 30, 0, 0, 0, 0)),
